@@ -8,6 +8,7 @@ import java.util.NoSuchElementException;
 final class RandomRunsTest {
     private static final int CALLS = 512;
     private static final int TEXT_CALL = -1;
+    private static final String[] KINDS = {"unique", "refers", "range", "sum", "count", "tree", "refers"};
 
     private long seed;
     private final LateRules ours = new LateRules();
@@ -16,12 +17,20 @@ final class RandomRunsTest {
     private final int tables;
     private final int keys;
     private final int spread;
+    /** How many of 10 rules are late, and how wide the bounds of those are that have some: runs differ in how much is refused. */
+    private final int late;
+    private final int wide;
+    /** Which kind more than half of the rules are of; -1: none. */
+    private final int favourite;
 
     private RandomRunsTest(long seed) {
         this.seed = seed * 7919 + 12345;
         tables = 1 + below(3);
         keys = 3 + below(below(4) == 0 ? 27 : 6);
         spread = 1 + below(5);
+        late = below(3) == 0 ? 10 : below(11);
+        wide = below(2) == 0 ? 900 : 0;
+        favourite = below(2) == 0 ? -1 : below(KINDS.length);
     }
 
     private int below(int n) {
@@ -37,6 +46,20 @@ final class RandomRunsTest {
         return below(40) == 0 ? below(40) - 5 : below(keys);
     }
 
+    /** A table and mostly a key of a row there. */
+    private int[] row() {
+        int table = table();
+        int bits = plain.rows(table, 1);
+        if (bits <= 0 || below(12) == 0) {
+            return new int[] {table, key()};
+        }
+        int key = below(30);
+        while ((bits >> key & 1) == 0) {
+            key = (key + 1) % 30;
+        }
+        return new int[] {table, key};
+    }
+
     private int column() {
         return below(40) == 0 ? below(7) - 2 : below(3);
     }
@@ -46,6 +69,7 @@ final class RandomRunsTest {
             case 0: return -1000;
             case 1: return below(199) - 99;
             case 2: return below(3) == 0 ? below(240) - 120 : below(5) - 2;
+            case 3: case 4: case 5: case 6: return row()[1];
             default: return below(keys * spread / 2 + 1);
         }
     }
@@ -67,8 +91,7 @@ final class RandomRunsTest {
     }
 
     private String ruleText() {
-        String[] kinds = {"unique", "refers", "range", "sum", "count", "tree", "refers"};
-        String kind = kinds[below(kinds.length)];
+        String kind = KINDS[favourite >= 0 && below(5) < 3 ? favourite : below(KINDS.length)];
         StringBuilder s = new StringBuilder(below(8) == 0 ? " " : "").append(kind);
         s.append(blanks()).append(below(tables)).append(blanks()).append(below(3));
         if (kind.equals("refers") || kind.equals("count")) {
@@ -78,13 +101,14 @@ final class RandomRunsTest {
             s.append(blanks()).append(below(3));
         }
         if (kind.equals("range") || kind.equals("sum") || kind.equals("count")) {
-            int low = kind.equals("count") ? 0 : below(3) == 0 ? -50 : -2;
-            s.append(blanks()).append(low).append(blanks()).append(low + below(kind.equals("count") ? 4 : 60));
+            int low = kind.equals("count") ? 0 : below(3) == 0 ? -50 - wide : -2 - wide;
+            int high = low + below(kind.equals("count") ? 4 : 60) + 2 * wide;
+            s.append(blanks()).append(low).append(blanks()).append(high);
         }
         if (kind.equals("refers") && below(3) != 0) {
             s.append(blanks()).append(below(2) == 0 ? "cascade" : "clear");
         }
-        if (below(2) == 0) {
+        if (below(10) < late) {
             s.append(blanks()).append("late");
         }
         if (below(3) == 0) {
@@ -107,6 +131,7 @@ final class RandomRunsTest {
     }
 
     private Object[] oneCall() {
+        int[] row = row();
         switch (below(100)) {
             case 0: case 1: case 2: return call("later", rule(), below(2) == 0);
             case 3: return call("drop", rule());
@@ -119,7 +144,7 @@ final class RandomRunsTest {
             case 16: return call("abort");
             case 17: case 18: case 19: return call("mark");
             case 20: case 21: return call("back", below(below(4) == 0 ? 10 : 2) - below(2) * below(2));
-            case 22: case 23: return call("value", table(), key(), column());
+            case 22: case 23: return call("value", row[0], row[1], column());
             case 24: return call("rows", table(), what(1));
             case 25: case 26: return call("told", rule(), what(9));
             case 27: case 28: case 29: case 30: case 31: case 32: case 33: return call("queue", place(), what(4));
@@ -131,23 +156,33 @@ final class RandomRunsTest {
             case 44: return call("all", what(2));
             case 45: case 46: return call("verdict", what(2));
             case 47: return call("letter", below(20) - 1);
-            case 48: case 49: return call("wouldSet", table(), key(), column(), value());
-            case 50: case 51: case 52: return call("wouldCut", table(), key(), what(2));
-            case 53: case 54: return call("leans", table(), key(), what(1));
-            case 55: return call("least", table(), key(), column());
-            case 56: case 57: return call("depth", rule(), key());
+            case 48: case 49: return call("wouldSet", row[0], row[1], column(), value());
+            case 50: case 51: case 52: return call("wouldCut", row[0], row[1], what(2));
+            case 53: case 54: return call("leans", row[0], row[1], what(1));
+            case 55: return call("least", row[0], row[1], column());
+            case 56: case 57: return call("depth", below(3) == 0 ? rule() : tree(), row[1]);
             case 58: case 59: case 60: case 61: return call("since", what(6));
             case 62: case 63: case 64: return call("count", what(9));
             default: return act();
         }
     }
 
+    private int tree() {
+        for (int rule = 0; rule < 12; rule++) {
+            if (plain.told(rule, 0) == 5) {
+                return rule;
+            }
+        }
+        return rule();
+    }
+
     private Object[] act() {
+        int[] row = row();
         switch (below(10)) {
-            case 0: case 1: case 2: return call("put", table(), key(), value(), value(), value());
-            case 3: return call("cut", table(), key());
-            case 4: return call("rekey", table(), key(), key());
-            default: return call("set", table(), key(), column(), value());
+            case 0: case 1: case 2: case 3: return call("put", table(), key(), value(), value(), value());
+            case 4: return call("cut", row[0], row[1]);
+            case 5: return call("rekey", row[0], row[1], key());
+            default: return call("set", row[0], row[1], column(), value());
         }
     }
 
