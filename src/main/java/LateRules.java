@@ -289,7 +289,7 @@ public final class LateRules {
             return FAILED;
         }
         gather(found, now, goal, LATE_RULES);
-        tally(CAME_BY_BACK, LEFT_BY_BACK);
+        tally(true);
         now.copy(goal);
         markCount = mark + 1;
         gather(waiting, atBegin, now, LATE_RULES);
@@ -680,7 +680,7 @@ public final class LateRules {
             now.copy(paper);
             return found.size();
         }
-        tally(CAME, LEFT);
+        tally(false);
         sinceBegin[ACTS_DONE]++;
         now.copy(paper);
         gather(waiting, atBegin, now, LATE_RULES);
@@ -721,10 +721,7 @@ public final class LateRules {
     }
 
     /** Counts which of the found questions come into the queue and which leave it. */
-    private void tally(int cameAt, int leftAt) {
-        if (cameAt < 0 || cameAt >= SINCE_KINDS || leftAt < 0 || leftAt >= SINCE_KINDS) {
-            return;
-        }
+    private void tally(boolean byBack) {
         for (int i = 0; i < found.size(); i++) {
             Rule rule = book.get(found.number(i));
             if (rule == null || !rule.late) {
@@ -732,9 +729,9 @@ public final class LateRules {
             }
             int then = rule.state(atBegin, found.subject(i));
             if (found.before(i) == then) {
-                sinceBegin[cameAt]++;
+                sinceBegin[byBack ? CAME_BY_BACK : CAME]++;
             } else if (found.after(i) == then) {
-                sinceBegin[leftAt]++;
+                sinceBegin[byBack ? LEFT_BY_BACK : LEFT]++;
             }
         }
     }

@@ -16,7 +16,9 @@ final class ActsTest {
         cutRefused();
         cutFollows();
         cutRuleByRule();
+        cutOneByOne();
         cutDeep();
+        nothingStaysOnPaper();
         rekeyRefused();
         rekeyFollows();
         rekeyRuleByRule();
@@ -283,6 +285,50 @@ final class ActsTest {
         w.put(0, 7, 7, 0, 0);
         Due.is("one that refers to itself", w.cut(0, 7), 1);
         Due.is("is gone", w.count(1), 0);
+    }
+
+    /** Each rule begins with the least key again, for each row that goes. */
+    private static void cutOneByOne() {
+        LateRules x = Due.with("refers 1 0 0 cascade", "refers 2 0 0 cascade", "refers 2 1 1 cascade", "refers 1 1 2 cascade");
+        x.put(0, 4, 0, 0, 0);
+        x.put(1, 7, 4, NULL, 0);
+        x.put(1, 8, 4, NULL, 0);
+        x.put(1, 9, 4, NULL, 0);
+        x.put(2, 1, 4, NULL, 0);
+        x.put(2, 2, 4, NULL, 0);
+        x.put(2, 0, NULL, 9, 0);
+        x.put(2, 3, NULL, 7, 0);
+        x.put(1, 0, NULL, 3, 0);
+        x.put(1, 1, NULL, 29, 0);
+        Due.is("refused by what refers to nothing", x.rows(1, 0), 4);
+        Due.is("would go", x.wouldCut(0, 4, 0), 9);
+        x.cut(0, 4);
+        Due.is("all go", x.count(1), 0);
+    }
+
+    /** What was tried or asked on paper, and not done, leaves nothing for the next act. */
+    private static void nothingStaysOnPaper() {
+        LateRules x = Due.with("refers 1 0 0 cascade", "range 0 0 0 50");
+        for (int key = 0; key < 5; key++) {
+            x.put(0, key, key, 0, 0);
+            x.put(1, key, key, 0, 0);
+        }
+        x.wouldCut(0, 0, 0);
+        Due.is("rekey", x.rekey(0, 1, 9), 4);
+        Due.is("rows", x.count(1), 10);
+        x.wouldCut(0, 0, 0);
+        Due.is("cut", x.cut(0, 2), 2);
+        Due.is("rows", x.count(1), 8);
+        x.wouldCut(0, 0, 0);
+        Due.is("set", x.set(0, 3, 0, 7), 1);
+        Due.is("rows", x.count(1), 8);
+        Due.is("refused", x.set(0, 3, 0, 51), -5);
+        Due.is("put", x.put(0, 20, 1, 1, 1), 2);
+        Due.is("rows", x.count(1), 9);
+        Due.is("as it was", x.value(0, 3, 0), 7);
+        x.least(0, 3, 1);
+        Due.is("cut", x.cut(0, 20), 2);
+        Due.is("as it was", x.value(0, 3, 1), 0);
     }
 
     private static void cutDeep() {

@@ -79,11 +79,17 @@ final class OnPaperTest {
         // 0: 4; 1: 4, 5; 2: 0, 2; 3: 0, 2; 4: 4
         Due.is("within it waits", x.wouldCut(0, 4, 2), 8);
         Due.is("cut tells the same", x.cut(0, 4), 8);
+        LateRules y = Due.with("refers 0 0 0 clear");
+        y.put(0, 1, NULL, 0, 0);
+        y.put(0, 0, 1, 0, 0);
+        y.put(0, 29, 1, 0, 0);
+        Due.is("values of the first and the last key", y.wouldCut(0, 1, 1), 2);
         Due.is("rows went", x.count(1), 5);
     }
 
     private static void whoLeans() {
-        LateRules x = Due.with("refers 1 0 0", "refers 1 1 0 clear", "refers 2 0 1 cascade late", "refers 0 0 0", "refers 0 1 2 late");
+        LateRules x = Due.with("refers 1 0 0", "refers 1 1 0 clear", "refers 2 0 1 cascade late", "refers 0 0 0", "refers 0 1 2 late",
+            "count 1 2 0 0 9", "sum 2 1 0 -99 99");
         x.put(0, 4, 4, NULL, 0);
         x.put(0, 5, 4, NULL, 0);
         x.put(1, 0, 4, 4, 0);
@@ -121,6 +127,11 @@ final class OnPaperTest {
         Due.is("no such row", x.least(0, 1, 0), NOTHING);
         Due.is("no such table", x.least(-1, 0, 0), NOTHING);
         Due.is("rows stay", x.value(0, 0, 0), -99);
+        LateRules y = Due.with("range 0 0 98 99", "unique 0 0");
+        y.put(0, 0, 98, 0, 0);
+        Due.is("the most", y.least(0, 0, 0), 99);
+        y.put(0, 1, 99, 0, 0);
+        Due.is("none", y.least(0, 0, 0), NOTHING);
     }
 
     private static void leastByEachKind() {

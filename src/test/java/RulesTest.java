@@ -114,6 +114,9 @@ final class RulesTest {
         fault("    ", 4);
         fault("uniqu 0 1", 0);
         fault("uniquex 0 1", 0);
+        fault("bnique 0 1", 0);
+        fault("tree 0 0 latez", 9);
+        fault("tree 0 0 alate", 9);
         fault("  unlike 0 1", 2);
         fault("0 unique 1", 0);
         fault("Unique 0 1", 0);
