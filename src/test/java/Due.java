@@ -7,15 +7,25 @@ final class Due {
 
     private static int wrong = 0;
     private static int looked = 0;
+    /** The sentence of the document that is being looked at, told with each wrong answer. */
+    private static String sentence = "";
 
     private Due() {
+    }
+
+    static void about(String told) {
+        sentence = told + ": ";
+    }
+
+    static int looked() {
+        return looked;
     }
 
     static void is(String call, long got, long want) {
         looked++;
         if (got != want) {
             wrong++;
-            System.out.println(call + " answered " + got + ", due is " + want);
+            System.out.println(sentence + call + " answered " + got + ", due is " + want);
         }
     }
 
@@ -27,7 +37,7 @@ final class Due {
         looked++;
         if (!got.equals(want)) {
             wrong++;
-            System.out.println(call + " answered '" + got + "', due is '" + want + "'");
+            System.out.println(sentence + call + " answered '" + got + "', due is '" + want + "'");
         }
     }
 
