@@ -169,6 +169,19 @@ final class EdgesOfAnswers extends Edges {
         x.put(0, 9, 8, 1, 1);
         is("three", x.group(0, 1), 3);
         is("three", x.group(1, 1), 3);
+        LateRules sizes = Due.with("unique 0 0 late", "unique 0 1 late rank 99", "unique 0 2 late");
+        sizes.begin();
+        sizes.put(0, 0, 1, 1, 1);
+        sizes.put(0, 1, NULL, 2, 2);
+        sizes.put(0, 2, NULL, NULL, 3);
+        sizes.put(0, 3, NULL, 3, NULL);
+        is("groups of one and of three", sizes.group(NONE, 0), 3);
+        int[] numbers = {0, 2, 1};
+        int[] many = {1, 3, 3};
+        for (int i = 0; i < 3; i++) {
+            is("number", sizes.group(i, 0), numbers[i]);
+            is("how many", sizes.group(i, 1), many[i]);
+        }
 
         says(20, "NONE: others, another what for any i.");
         each("i", these(-2, 2, MIN, MAX), i -> x.group(i, 0), -1);
@@ -250,6 +263,19 @@ final class EdgesOfAnswers extends Edges {
         x.put(0, 1, 3, 3, 3);
         is("those are in the queue again", x.fresh(1, 1), 0);
         is("and other than by the mark", x.fresh(1, 0), 2);
+        LateRules y = Due.with("unique 0 0 late", "range 0 1 0 9 late");
+        y.put(0, 0, 1, 1, NULL);
+        y.begin();
+        y.set(0, 0, 1, 5);
+        y.set(0, 0, 0, 7);
+        y.mark();
+        y.set(0, 0, 1, 1);
+        y.wouldSet(0, 0, 1, 5);
+        is("range 0 is as at begin", y.fresh(0, 1), 1);
+        y.put(0, 1, 2, 2, 2);
+        y.put(0, 2, 3, 3, 3);
+        is("more wait than were asked: unique 2, 3, range 1, 2", y.fresh(0, 0), 4);
+        is("range 0 is as at begin", y.fresh(0, 1), 1);
 
         says(22, "NONE: no such MARK, others.");
         each("mark", these(-1, 2, 7, 8, MIN, MAX), m -> x.fresh(m, 0), -1);
@@ -368,6 +394,16 @@ final class EdgesOfAnswers extends Edges {
         x.later(0, false);
         is("RULE", x.all(1), 2);
         is("SUBJECT", x.all(2), 0);
+        LateRules ring = Due.with("tree 0 0 late");
+        ring.put(0, 0, NULL, 0, 0);
+        ring.put(0, 1, 2, 0, 0);
+        ring.put(0, 2, NULL, 0, 0);
+        ring.begin();
+        ring.set(0, 2, 0, 1);
+        is("2 waits alone", Due.queue(ring), "0:2:-1000:1:1");
+        is("both fail", ring.all(0), 2);
+        is("RULE", ring.all(1), 0);
+        is("SUBJECT", ring.all(2), 1);
         LateRules prompt = Due.with("tree 0 0 late", "unique 0 1");
         prompt.begin();
         prompt.put(0, 1, 2, 0, 0);

@@ -138,6 +138,7 @@ final class EdgesOfCalls extends Edges {
         y.put(0, 8, 5, 4, 6);
         y.put(0, 7, -5, 4, 7);
         y.put(0, 6, -5, 6, 6);
+        y.wouldCut(0, 6, 0);
         refusedBy(y, Due.rule(y, "unique 0 0"), "rule 1 unique -5");
         refusedBy(y, Due.rule(y, "refers 0 1 0"), "rule 1 refers 4");
         refusedBy(y, Due.rule(y, "range 0 1 6 6"), "rule 1 range 7");
@@ -180,6 +181,7 @@ final class EdgesOfCalls extends Edges {
         x.put(0, 1, 2, 2, 2);
         x.set(0, 0, 0, 3);
         x.set(0, 0, 0, 1);
+        x.wouldCut(0, 1, 0);
         is("2 alone is other than it was", x.later(0, true), 1);
         is("the queue", Due.queue(x), "0:2:0:1:0 1:1:-2000:2:0");
         is("none has changed", x.later(2, true), 0);
@@ -188,6 +190,7 @@ final class EdgesOfCalls extends Edges {
         says(6, "or is late no more: its QUESTIONS in THE QUEUE are asked in ORDER, and leave it: how many came, left.");
         x.set(0, 0, 0, 4);
         int asked = x.count(4);
+        x.wouldCut(0, 1, 0);
         is("1, 2, 4", x.later(0, false), 3);
         is("asked", x.count(4), asked + 3);
         is("the queue", Due.queue(x), "1:1:-2000:2:0");

@@ -99,6 +99,11 @@ final class EdgesOfPaper extends Edges {
 
         says(29, "how many VALUES would become NULL in ROWS that stay (1; both whether or not cut() would be REFUSED),");
         is("of (1,2), (1,3), (2,0)", x.wouldCut(0, 0, 1), 3);
+        LateRules first = Due.with("refers 0 0 0 clear", "refers 2 2 0 clear");
+        first.put(0, 29, NULL, 0, 0);
+        first.put(0, 0, 29, 0, 0);
+        first.put(2, 29, 0, 0, 29);
+        is("the first and the last value there can be", first.wouldCut(0, 29, 1), 2);
         is("of (2,1)", x.wouldCut(0, 2, 1), 1);
         is("none", x.wouldCut(1, 2, 1), 0);
         is("which is refused", x.cut(0, 2), -5);
@@ -120,12 +125,10 @@ final class EdgesOfPaper extends Edges {
             int table = i < 3 ? 0 : i < 7 ? 1 : 2;
             int key = i < 3 ? i : i < 7 ? i - 3 : i - 7;
             int rows = x.count(1);
+            String before = Picture.withVerdict(x);
+            x.wouldCut(table, key, 1);
             int go = x.wouldCut(table, key, 0);
             int would = x.wouldCut(table, key, 2);
-            String before = Picture.withVerdict(x);
-            x.wouldCut(table, key, 0);
-            x.wouldCut(table, key, 1);
-            x.wouldCut(table, key, 2);
             is("all stays", Picture.withVerdict(x), before);
             is("cut(" + table + ", " + key + ")", would, x.cut(table, key));
             is("rows left", x.count(1), would == -5 ? rows : rows - go);
@@ -174,6 +177,13 @@ final class EdgesOfPaper extends Edges {
         is("the longest chain", chain.leans(0, 0, 1), 29);
         is("straight", chain.leans(0, 0, 0), 1);
 
+        LateRules all = Due.with("refers 0 0 0", "refers 1 1 0", "refers 2 2 0");
+        for (int i = 0; i < 90; i++) {
+            all.put(i / 30, i % 30, 0, 0, 0);
+        }
+        is("as many as there can be, itself, too", all.leans(0, 0, 0), 90);
+        is("as many as there can be, itself aside", all.leans(0, 0, 1), 89);
+
         says(30, "NONE: no such ROW, others.");
         each("table", these(-1, 3, MIN, MAX), t -> x.leans(t, 0, 0), -1);
         each("key", these(2, -1, 30, MIN, MAX), k -> x.leans(0, k, 0), -1);
@@ -191,6 +201,8 @@ final class EdgesOfPaper extends Edges {
         String before = Picture.withVerdict(x);
         x.least(0, 0, 0);
         is("all stays", Picture.withVerdict(x), before);
+        x.wouldCut(0, 0, 0);
+        is("the least", x.least(0, 0, 0), -99);
 
         says(31, "Integer.MIN_VALUE: none, no such ROW, COLUMN.");
         LateRules none = Due.with("range 0 0 5 5", "range 0 1 98 99");
@@ -249,6 +261,12 @@ final class EdgesOfPaper extends Edges {
         for (int key = 0; key < 30; key++) {
             is("depth of " + key, x.depth(0, key), key);
         }
+        x.wouldCut(1, 5, 0);
+        is("with what was cut on paper", x.depth(0, 6), 6);
+        is("with what was cut on paper", x.depth(0, 5), 5);
+        x.wouldSet(1, 5, 2, 6);
+        is("with a ring on paper", x.depth(0, 6), 6);
+        is("with a ring on paper", x.question(0, 5, 1), 0);
         each("no key there", these(-1, -99, 30, 99), v -> {
             x.set(1, 0, 2, v);
             return x.depth(0, 0) + x.depth(0, 29);
@@ -296,6 +314,13 @@ final class EdgesOfPaper extends Edges {
         is("by later()", x.later(1, true), 2);
         is("by later()", x.since(0), 4);
 
+        LateRules behind = Due.with("range 0 1 -9 9", "unique 0 0 late", "range 0 2 -9 9", "unique 0 2 late");
+        behind.begin();
+        behind.put(0, 0, 1, 2, 3);
+        is("late ones behind others", behind.since(0), 2);
+        behind.cut(0, 0);
+        is("late ones behind others", behind.since(1), 2);
+
         says(33, "that left it by ACTS, as their STATE was as at BEGIN again (1),");
         is("unique 2 left once", x.since(1), 1);
         is("by later() they are not counted", x.later(1, false), 2);
@@ -319,20 +344,19 @@ final class EdgesOfPaper extends Edges {
         is("and none more", Due.since(x), "9 4 3 1 10 0 1");
 
         says(33, "ACTS that were done (4), ACTS that were REFUSED, for whatever (5), MARKS there are (6).");
-        x.put(0, 30, 1, 1, 1);
-        x.set(0, 9, 1, 1);
-        x.put(0, 0, 1, 1, 1);
-        x.cut(3, 0);
-        x.rekey(0, 0, 0);
-        is("refused otherwise", x.since(5), 5);
-        x.put(0, 9, 9, 1, 1);
-        is("refused as something failed", x.since(5), 6);
+        Call[] refused = {y -> y.put(0, 30, 1, 1, 1), y -> y.put(0, 0, 1, 1, 1), y -> y.set(0, 0, 3, 1), y -> y.set(0, 9, 1, 1),
+            y -> y.set(0, 0, 0, 1), y -> y.cut(3, 0), y -> y.cut(0, 9), y -> y.rekey(0, 0, 30), y -> y.rekey(0, 9, 8),
+            y -> y.rekey(0, 0, 0), y -> y.put(0, 9, 9, 1, 1), y -> y.set(0, 0, 1, 2)};
+        for (int i = 0; i < refused.length; i++) {
+            is("refused", refused[i].on(x) < 0, true);
+            is("refused so far", x.since(5), i + 1);
+        }
         x.drop(9);
         x.later(9, true);
         x.back(9);
         x.begin();
         x.wouldSet(0, 0, 1, 2);
-        is("acts alone", x.since(5), 6);
+        is("acts alone", x.since(5), 12);
         is("done", x.since(4), 10);
         x.mark();
         is("marks", x.since(6), 2);

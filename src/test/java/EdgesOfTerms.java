@@ -36,6 +36,32 @@ final class EdgesOfTerms extends Edges {
         }
         is("call 511", y.sign(0), 4);
         is("call 512", y.rule(), -1000);
+        fullestQueue();
+    }
+
+    /** By back() each of 12 rules has 90 questions of which the state changes: two values of 30 rows, and 30 keys. */
+    private static void fullestQueue() {
+        LateRules x = new LateRules();
+        for (int rule = 0; rule < 12; rule++) {
+            Due.rule(x, "refers 0 0 1 late");
+        }
+        x.begin();
+        for (int key = 0; key < 30; key++) {
+            x.put(0, key, key - 99, 0, 0);
+        }
+        x.mark();
+        for (int key = 0; key < 30; key++) {
+            x.set(0, key, 0, key + 30);
+        }
+        for (int key = 0; key < 30; key++) {
+            x.put(1, key, 0, 0, 0);
+        }
+        is("the queue", x.count(2), 12 * 60);
+        is("all of the queue that fail", x.first(3), 12 * 30);
+        is("back", x.back(0), 12 * 30);
+        is("left", x.since(2), 12 * 60);
+        is("came", x.since(3), 12 * 30);
+        is("the last of the queue", x.queue(12 * 30 - 1, 1), -70);
     }
 
     private static void tables() {
@@ -118,6 +144,8 @@ final class EdgesOfTerms extends Edges {
         fault("unique 1 2 lates", 11);
         fault("unique 1 2 aate", 11);
         fault("unique 1 2 zate", 11);
+        fault("unique 1 2 latea", 11);
+        fault("unique 1 2 latez", 11);
         fault("uniqu e 1 2", 0);
         fault("unique 1 2 laterank 3", 11);
         fault("unique`1 2", 6);
@@ -412,6 +440,8 @@ final class EdgesOfTerms extends Edges {
         says(I, "FAULTS: the first place of a token that can't stand there (its first sign),");
         fault("late", 0);
         fault("  7", 2);
+        fault("0 1", 0);
+        fault("0 unique 0 1", 0);
         fault("  unlike 0 0", 2);
         fault("unique late 0", 7);
         fault("unique unique", 7);

@@ -89,6 +89,13 @@ final class EdgesOfTransactions extends Edges {
         z.cut(0, 0);
         z.cut(0, 2);
         is("all is as it was, of what it is about", Due.queue(z), "");
+        LateRules w = Due.with("range 0 0 -9 9 late", "range 0 1 -9 9 late", "range 0 2 -9 9 late");
+        w.put(0, 5, 1, 1, 1);
+        w.begin();
+        w.set(0, 5, 0, 2);
+        w.set(0, 5, 1, 3);
+        w.set(0, 5, 2, 4);
+        is("each value of a row is another one", Due.queue(w), "0:5:1:2:0 1:5:1:3:0 2:5:1:4:0");
     }
 
     private static void order() {
@@ -167,6 +174,21 @@ final class EdgesOfTransactions extends Edges {
         return x;
     }
 
+    /** All 89 others refer to (0, 0), by the last three of 12 rules. */
+    private static LateRules allRefer() {
+        LateRules x = new LateRules();
+        for (int rule = 0; rule < 9; rule++) {
+            Due.rule(x, "tree 0 2");
+        }
+        Due.rule(x, "refers 0 0 0 cascade");
+        Due.rule(x, "refers 1 1 0 cascade");
+        Due.rule(x, "refers 2 2 0 cascade");
+        for (int i = 0; i < 90; i++) {
+            x.put(i / 30, i % 30, 0, 0, i < 60 ? NULL : 0);
+        }
+        return x;
+    }
+
     private static void cutStepByStep() {
         says(II, "of each ROW (the least KEY first) that has its KEY as VALUE in that COLUMN:");
         LateRules x = twoThatGo(8);
@@ -180,6 +202,10 @@ final class EdgesOfTransactions extends Edges {
         }
         all.cut(1, 29);
         is("all but one", all.rows(0, 1), 1 << 7);
+        is("as many as there can be", allRefer().wouldCut(0, 0, 0), 90);
+        LateRules gone = allRefer();
+        gone.cut(0, 0);
+        is("as many as there can be", gone.count(1), 0);
 
         says(II, "cut(): the ROW goes first;");
         LateRules itself = Due.with("refers 0 0 0 cascade", "refers 0 1 0 clear");
@@ -581,6 +607,15 @@ final class EdgesOfTransactions extends Edges {
         is("nothing is gone back", z.rows(0, 1), 1 << 5);
         z.later(0, true);
         is("late ones are not asked", z.back(0), 4);
+        LateRules ring = Due.with("tree 0 0 late");
+        ring.put(0, 1, 2, 0, 0);
+        ring.put(0, 2, NULL, 0, 0);
+        ring.begin();
+        ring.set(0, 2, 0, 1);
+        ring.mark();
+        ring.set(0, 2, 0, NULL);
+        ring.later(0, false);
+        refusedBy(ring, ring.back(0), "rule 0 tree 1");
 
         says(II, "behind it THE QUEUE is made anew.");
         is("the queue", Due.queue(z), "0:3:-2000:7:1 0:4:-2000:8:1 0:5:-2000:1:0 1:1:0:3:1");
@@ -668,9 +703,12 @@ final class EdgesOfTransactions extends Edges {
         leavesIt("count", x -> x.count(0));
 
         says(II, "Without a TRANSACTION THE QUEUE is empty.");
-        LateRules x = Due.with("unique 0 0 late");
+        LateRules x = Due.with("unique 0 0 late", "unique 0 1 late");
+        x.begin();
+        x.commit();
         x.put(0, 0, 1, 1, 1);
-        x.later(0, false);
+        is("being late no more takes none", x.later(0, false), 0);
+        is("none", x.count(2), 0);
         is("becoming late brings none", x.later(0, true), 0);
         is("none", x.count(2), 0);
         is("none of the rule", x.told(0, 9), 0);

@@ -39,6 +39,7 @@ final class Picture {
             for (int key = 0; key < 30; key++) {
                 if ((keys >> key & 1) != 0) {
                     add("row " + key).add(x.value(table, key, 0)).add(x.value(table, key, 1)).add(x.value(table, key, 2));
+                    add("leans").add(x.leans(table, key, 0)).add(x.leans(table, key, 1));
                 }
             }
         }
@@ -52,6 +53,10 @@ final class Picture {
                 for (int what = 1; what < 10; what++) {
                     add(x.told(rule, what));
                 }
+                for (int subject = 0; subject < 3; subject++) {
+                    add(x.question(rule, subject, 0)).add(x.question(rule, subject, 1));
+                }
+                add("depth").add(x.depth(rule, 0)).add(x.depth(rule, 1));
             }
         }
     }
