@@ -866,11 +866,15 @@ final class EdgesOfTransactions extends Edges {
         before = Picture.of(z);
         is("rule", Due.rule(z, "tree 0 0 x"), -1009);
         is("a fault changes nothing", Picture.of(z), before);
-        is("rule", Due.rule(z, "range 0 1 0 1"), -5);
-        is("one that does not hold changes nothing", Picture.of(z), before);
-        z.begin();
-        before = Picture.of(z);
-        is("rule", Due.rule(z, "tree 0 0"), -3);
-        is("one that is not in time changes nothing", Picture.of(z), before);
+        LateRules w = scene(false);
+        w.end(0);
+        before = Picture.of(w);
+        is("rule", Due.rule(w, "range 0 1 0 1"), -5);
+        is("one that does not hold changes nothing", Picture.of(w), before);
+        LateRules v = scene(true);
+        v.end(0);
+        before = Picture.of(v);
+        is("rule", Due.rule(v, "tree 0 0"), -3);
+        is("one that is not in time changes nothing", Picture.of(v), before);
     }
 }

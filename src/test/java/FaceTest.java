@@ -29,6 +29,10 @@ final class FaceTest {
     public static void main(String[] args) throws IOException {
         face();
         language(args.length > 0 ? args[0] : ".");
+        shapes(LateRules.class);
+        for (Class<?> inside : LateRules.class.getDeclaredClasses()) {
+            shapes(inside);
+        }
         numbersOfAllSizes();
         Due.finish("FaceTest");
     }
@@ -93,6 +97,45 @@ final class FaceTest {
         int imports = code.split("\nimport ", -1).length - 1 + (code.startsWith("import ") ? 1 : 0);
         Due.is("imports", imports, 1);
         Due.is("classes are few", code.split("\\bclass ").length - 1 <= 12, true);
+        Due.is("the code has signs above 127", source.chars().anyMatch(sign -> sign > 127), false);
+        lengthsOfMethods(code);
+    }
+
+    /** What LANGUAGE.md says of static fields (5), and of how many fields and parameters there may be (11). */
+    private static void shapes(Class<?> type) {
+        int fields = 0;
+        for (Field field : type.getDeclaredFields()) {
+            if (Modifier.isStatic(field.getModifiers())) {
+                Due.is(field.getName() + " is final", Modifier.isFinal(field.getModifiers()), true);
+                Due.is(field.getName() + " is a number", field.getType() == int.class, true);
+            } else {
+                fields++;
+            }
+        }
+        Due.is(type.getName() + " has few fields", fields <= 20, true);
+        for (Method method : type.getDeclaredMethods()) {
+            Due.is(method.getName() + " has few parameters", method.getParameterCount() <= 7, true);
+        }
+        for (Constructor<?> constructor : type.getDeclaredConstructors()) {
+            Due.is(type.getName() + " has few parameters", constructor.getParameterCount() <= 7, true);
+        }
+    }
+
+    /** Methods of the class and of the classes inside it end with a brace at four or at eight blanks. */
+    private static void lengthsOfMethods(String source) {
+        int longest = 0;
+        int start = 0;
+        String[] lines = source.split("\n");
+        for (int i = 0; i < lines.length; i++) {
+            if (lines[i].matches(" {4}( {4})?[a-zA-Z].*\\) (throws \\w+ )?\\{") && !lines[i].trim().matches("(if|for|while|switch) .*")) {
+                start = i;
+            }
+            if (lines[i].matches(" {4}( {4})?\\}") && start > 0) {
+                longest = Math.max(longest, i - start + 1);
+            }
+        }
+        Due.is("lines were found", longest > 10, true);
+        Due.is("the longest method has " + longest + " lines, more than 60", longest > 60, false);
     }
 
     private static Object[] argumentsFor(Method method, long[] seed) {

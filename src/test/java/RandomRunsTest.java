@@ -8,6 +8,8 @@ import java.util.NoSuchElementException;
 final class RandomRunsTest {
     private static final int CALLS = 512;
     private static final int TEXT_CALL = -1;
+    /** How many calls a text of 80 signs is told by, with end, end and rule. */
+    private static final int LONGEST_TEXT = 23;
     private static final String[] KINDS = {"unique", "refers", "range", "sum", "count", "tree", "refers"};
 
     private long seed;
@@ -237,6 +239,9 @@ final class RandomRunsTest {
         }
         while (log.size() < CALLS) {
             Object[] call = oneCall();
+            if (call[0].equals(TEXT_CALL) && log.size() + LONGEST_TEXT > CALLS) {
+                continue;
+            }
             boolean same = call[0].equals(TEXT_CALL) ? tell((String) call[1]) : both(call);
             if (!same) {
                 return false;
