@@ -278,6 +278,15 @@ final class EdgesOfTerms extends Edges {
         is("another table", x.put(1, 3, 99, 99, 99), 0);
         refusedBy(x, x.put(0, 4, 99, 1, 99), "rule 0 sum 99");
         refusedBy(x, x.put(0, 4, -99, 1, 99), "rule 0 sum -99");
+        for (int table = 0; table < 3; table++) {
+            for (int column = 0; column < 3; column++) {
+                LateRules one = Due.with("sum " + table + " " + column + " " + column + " 0 99");
+                one.put(0, 0, 7, 7, 7);
+                one.put(1, 0, 7, 7, 7);
+                one.put(2, 0, 7, 7, 7);
+                is("one row of one table and column", one.question(0, 7, 0), 7);
+            }
+        }
 
         says(I, "the VALUES in D (NULL being 0) are LOW .. HIGH together.");
         is("HIGH", x.put(0, 4, 99, 0, 0), 0);
@@ -324,6 +333,11 @@ final class EdgesOfTerms extends Edges {
         is("more than can be", never.put(1, 0, 0, 0, 0), -5);
         LateRules low = Due.with("count 0 0 1 -9 -1");
         is("fewer than can be", low.put(1, 0, 0, 0, 0), -5);
+
+        LateRules beside = Due.with("unique 0 0", "count 0 0 1 0 9");
+        is("a value that is a key: unique and count", beside.put(0, 0, 29, 0, 0), 2);
+        is("one that is none: unique", beside.put(0, 1, 30, 0, 0), 1);
+        is("one that is none: unique", beside.put(0, 2, -1, 0, 0), 1);
 
         says(I, "SUBJECT: the KEY. STATE: twice how many these are, 1 more if U has such a ROW.");
         LateRules y = Due.with("count 0 2 1 1 30 late");

@@ -11,6 +11,10 @@ final class RoomTest extends Edges {
     private static final ThreadMXBean THREADS = (ThreadMXBean) ManagementFactory.getThreadMXBean();
 
     public static void main(String[] args) {
+        if (!THREADS.isThreadAllocatedMemorySupported()) {
+            System.out.println("RoomTest: this machine does not count bytes");
+            return;
+        }
         run("sign and rule, no rule", x -> {
             x.sign('t' << 24 | 'r' << 16 | 'e' << 8 | 'e');
             return x.rule();
