@@ -9,7 +9,7 @@ import java.nio.file.Path;
 import java.util.NoSuchElementException;
 import java.util.TreeSet;
 
-/** The public face as the document prints it, a part of LANGUAGE.md, and calls with numbers of all sizes. */
+/** The public face as the document prints it, and calls with numbers of all sizes. */
 final class FaceTest {
     private static final String[] FACE = {
         "int sign(int)", "boolean end(int)", "int rule()", "int drop(int)", "int later(int, boolean)",
@@ -28,11 +28,7 @@ final class FaceTest {
 
     public static void main(String[] args) throws IOException {
         face();
-        language(args.length > 0 ? args[0] : ".");
-        shapes(LateRules.class);
-        for (Class<?> inside : LateRules.class.getDeclaredClasses()) {
-            shapes(inside);
-        }
+        asPrinted(Files.readString(Path.of(args.length > 0 ? args[0] : ".", "../shared/DOC.md")));
         numbersOfAllSizes();
         Due.finish("FaceTest");
     }
@@ -87,55 +83,18 @@ final class FaceTest {
         }
     }
 
-    private static void language(String root) throws IOException {
-        String source = Files.readString(Path.of(root, "src/main/java/LateRules.java"));
-        String code = source.replaceAll("(?s)/\\*.*?\\*/", "").replaceAll("//[^\n]*", "");
-        for (String word : new String[] {"->", "::", "try", "catch", "finally", "synchronized", "assert", "package", "Random",
-            "System.out", "System.nano", "System.currentTime", "Exact(", "double", "float", "instanceof"}) {
-            Due.is("the code has " + word, code.contains(word), false);
-        }
-        int imports = code.split("\nimport ", -1).length - 1 + (code.startsWith("import ") ? 1 : 0);
-        Due.is("imports", imports, 1);
-        Due.is("classes are few", code.split("\\bclass ").length - 1 <= 12, true);
-        Due.is("the code has signs above 127", source.chars().anyMatch(sign -> sign > 127), false);
-        lengthsOfMethods(code);
-    }
-
-    /** What LANGUAGE.md says of static fields (5), and of how many fields and parameters there may be (11). */
-    private static void shapes(Class<?> type) {
-        int fields = 0;
-        for (Field field : type.getDeclaredFields()) {
-            if (Modifier.isStatic(field.getModifiers())) {
-                Due.is(field.getName() + " is final", Modifier.isFinal(field.getModifiers()), true);
-                Due.is(field.getName() + " is a number", field.getType() == int.class, true);
-            } else {
-                fields++;
+    /** The heads above against the document's own print of them. */
+    private static void asPrinted(String document) {
+        String block = document.substring(document.indexOf("public final class LateRules {"));
+        TreeSet<String> printed = new TreeSet<>();
+        for (String line : block.substring(0, block.indexOf("```")).split("\n")) {
+            String head = line.trim().replaceAll("(int|boolean) \\w+(?=[,)])", "$1");
+            if (head.matches("public (int|boolean) \\w+\\(.*;")) {
+                printed.add(head.substring("public ".length(), head.length() - 1));
             }
         }
-        Due.is(type.getName() + " has few fields", fields <= 20, true);
-        for (Method method : type.getDeclaredMethods()) {
-            Due.is(method.getName() + " has few parameters", method.getParameterCount() <= 7, true);
-        }
-        for (Constructor<?> constructor : type.getDeclaredConstructors()) {
-            Due.is(type.getName() + " has few parameters", constructor.getParameterCount() <= 7, true);
-        }
-    }
-
-    /** Methods of the class and of the classes inside it end with a brace at four or at eight blanks. */
-    private static void lengthsOfMethods(String source) {
-        int longest = 0;
-        int start = 0;
-        String[] lines = source.split("\n");
-        for (int i = 0; i < lines.length; i++) {
-            if (lines[i].matches(" {4}( {4})?[a-zA-Z].*\\) (throws \\w+ )?\\{") && !lines[i].trim().matches("(if|for|while|switch) .*")) {
-                start = i;
-            }
-            if (lines[i].matches(" {4}( {4})?\\}") && start > 0) {
-                longest = Math.max(longest, i - start + 1);
-            }
-        }
-        Due.is("lines were found", longest > 10, true);
-        Due.is("the longest method has " + longest + " lines, more than 60", longest > 60, false);
+        Due.is("the face as the document prints it", printed.toString(), new TreeSet<>(java.util.Arrays.asList(FACE)).toString());
+        Due.is("NONE as it prints it", block.contains("public static final int NONE = " + LateRules.NONE + ";"), true);
     }
 
     private static Object[] argumentsFor(Method method, long[] seed) {

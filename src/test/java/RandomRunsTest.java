@@ -24,6 +24,8 @@ final class RandomRunsTest {
     private final int wide;
     /** Which kind more than half of the rules are of; -1: none. */
     private final int favourite;
+    /** How many rows each table has first, each with values that are keys of rows; without such, rows seldom refer to others. */
+    private final int web;
 
     private RandomRunsTest(long seed) {
         this.seed = seed * 7919 + 12345;
@@ -33,6 +35,7 @@ final class RandomRunsTest {
         late = below(3) == 0 ? 10 : below(11);
         wide = below(2) == 0 ? 900 : 0;
         favourite = below(2) == 0 ? -1 : below(KINDS.length);
+        web = below(2) == 0 ? 0 : 2 + below(below(4) == 0 ? 29 : 9);
     }
 
     private int below(int n) {
@@ -67,6 +70,9 @@ final class RandomRunsTest {
     }
 
     private int value() {
+        if (web > 0 && below(4) != 0) {
+            return below(web);
+        }
         switch (below(12)) {
             case 0: return -1000;
             case 1: return below(199) - 99;
@@ -183,7 +189,7 @@ final class RandomRunsTest {
         switch (below(10)) {
             case 0: case 1: case 2: case 3: return call("put", table(), key(), value(), value(), value());
             case 4: return call("cut", row[0], row[1]);
-            case 5: return call("rekey", row[0], row[1], key());
+            case 5: return call("rekey", row[0], row[1], web > 0 ? below(30) : key());
             default: return call("set", row[0], row[1], column(), value());
         }
     }
@@ -230,8 +236,27 @@ final class RandomRunsTest {
         }
     }
 
+    /** No value is a key that is not below the row's own, so that trees and rules that refer hold. */
+    private boolean putWeb() {
+        for (int table = 0; table < tables; table++) {
+            for (int key = 0; key < web; key++) {
+                if (!both(call("put", table, key, keyBelow(key), keyBelow(key), keyBelow(key)))) {
+                    return false;
+                }
+            }
+        }
+        return true;
+    }
+
+    private int keyBelow(int key) {
+        return key == 0 || below(8) == 0 ? -1000 : below(3) == 0 ? key - 1 : below(key);
+    }
+
     private boolean run() {
         int rulesFirst = below(12);
+        if (!putWeb()) {
+            return false;
+        }
         for (int i = 0; i < rulesFirst; i++) {
             if (!tell(ruleText())) {
                 return false;
